@@ -1,0 +1,42 @@
+/** Counts and prints the calls whose answer is not the one that is due. */
+final class Checks {
+    private int made = 0;
+    private int wrong = 0;
+
+    void due(String call, int want, int got) {
+        made++;
+        if (got != want) {
+            wrong++;
+            System.out.println(call + " answered " + got + ", due is " + want);
+        }
+    }
+
+    void yes(String what, boolean holds) {
+        due(what + " (1: so it is)", 1, holds ? 1 : 0);
+    }
+
+    /** value(copy) must throw IndexOutOfBoundsException, thrown by the class itself and not by the machine. */
+    void valueThrows(String what, LendThreads x, int copy) {
+        Class<?> thrown = null;
+        try {
+            x.value(copy);
+        } catch (RuntimeException e) {
+            thrown = e.getClass();
+        }
+        yes(what + ": value(" + copy + ") throws IndexOutOfBoundsException", thrown == IndexOutOfBoundsException.class);
+    }
+
+    /** Gives the same work so many turns, each of which must do what is told. */
+    void turns(String what, LendThreads x, int work, int... dids) {
+        for (int i = 0; i < dids.length; i++) {
+            due(what + ": turn(" + work + "), the " + (i + 1) + ". one", dids[i], x.turn(work));
+        }
+    }
+
+    void end() {
+        System.out.println(made + " checks, " + wrong + " wrong");
+        if (wrong != 0 || made == 0) {
+            System.exit(1);
+        }
+    }
+}
