@@ -212,7 +212,7 @@ public final class LendThreads {
         if (find(from) == null || !isOther(from, to)) {
             return RANGE;
         }
-        return post.there[Post.way(from, to)];
+        return post.countThere(Post.way(from, to));
     }
 
     private Work find(int number) {
@@ -487,12 +487,22 @@ public final class LendThreads {
         private final int[] lost = new int[MOST_WORKS * MOST_WORKS];
         private int toLose;
 
-        /** Both are works: the face has tested them before they were kept. */
         static int way(int from, int to) {
             return from * MOST_WORKS + to;
         }
 
+        private boolean isWay(int way) {
+            return way >= 0 && way < there.length && way < lost.length;
+        }
+
+        int countThere(int way) {
+            return isWay(way) ? there[way] : 0;
+        }
+
         void send(int way) {
+            if (!isWay(way)) {
+                return;
+            }
             if (toLose > 0) {
                 toLose--;
                 lost[way]++;
@@ -502,7 +512,7 @@ public final class LendThreads {
         }
 
         boolean take(int way) {
-            if (there[way] <= 0) {
+            if (!isWay(way) || there[way] <= 0) {
                 return false;
             }
             there[way]--;
@@ -510,7 +520,7 @@ public final class LendThreads {
         }
 
         boolean findLost(int way) {
-            if (lost[way] <= 0) {
+            if (!isWay(way) || lost[way] <= 0) {
                 return false;
             }
             lost[way]--;

@@ -61,6 +61,9 @@ public final class EndingTest {
         due("8: 0 waits for a ring, but is not in it: the ring of 1 and 4", 4, y.ring());
         due("8: the ring of 2 and 3", 3, y.ring());
         due("8: none", LendThreads.NONE, y.ring());
+        LendThreads z = withNext(2, 0, 1);
+        allWait(z, 3);
+        due("8: 0 waits for 2, 2 for 1, 1 for 0: the greatest is in the middle", 2, z.ring());
     }
 
     private static void ringIsNotAChain() {
