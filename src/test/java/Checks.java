@@ -33,6 +33,29 @@ final class Checks {
         }
     }
 
+    /** state(work, 0), state(work, 1) and so on must be as told. */
+    void states(String what, LendThreads x, int work, int... states) {
+        for (int i = 0; i < states.length; i++) {
+            due(what + ": state(" + work + ", " + i + ")", states[i], x.state(work, i));
+        }
+    }
+
+    /** The copy's line must hold these works and no other one. */
+    void line(String what, LendThreads x, int copy, int... works) {
+        for (int i = 0; i < works.length; i++) {
+            due(what + ": line(" + copy + ", " + i + ")", works[i], x.line(copy, i));
+        }
+        due(what + ": line(" + copy + ", " + works.length + ")", LendThreads.NONE, x.line(copy, works.length));
+    }
+
+    /** The log must hold these lines and no other one. */
+    void log(String what, LendThreads x, int... lines) {
+        for (int i = 0; i < lines.length; i++) {
+            due(what + ": log(" + i + ")", lines[i], x.log(i));
+        }
+        due(what + ": log(" + lines.length + ")", LendThreads.NONE, x.log(lines.length));
+    }
+
     void end() {
         System.out.println(made + " checks, " + wrong + " wrong");
         if (wrong != 0 || made == 0) {
