@@ -63,6 +63,14 @@ public final class EndingEdgesTest {
         due("8: the ring of 0 and 9 goes first, though 11 is greater", 9, x.ring());
         due("8: the ring of 10 and 11", 11, x.ring());
         due("8: none is left", LendThreads.NONE, x.ring());
+        wants[0] = 3;
+        wants[9] = 2;
+        wants[10] = 1;
+        wants[11] = 0;
+        LendThreads y = waiting(has, wants);
+        due("8: the ring of 0 and 11 goes first, though 9 is found before 11", 11, y.ring());
+        due("8: the ring of 9 and 10", 10, y.ring());
+        due("8: none is left", LendThreads.NONE, y.ring());
     }
 
     /** Promise 8, "of its works the one with the greatest number": one that waits for the ring is not of it. */
@@ -200,6 +208,21 @@ public final class EndingEdgesTest {
         due("10: a closing leaves them as they were", 1, y.again(Scenes.FAILED));
     }
 
+    /** Promise 10, "from step 0 on": what it had got of the step at which it ended is to be got again. */
+    private static void againTakesAllAgain() {
+        LendThreads x = new LendThreads();
+        x.work(2, 1);
+        x.wants(0, 0, false, 5);
+        for (int copy = 0; copy < 4; copy++) {
+            x.wants(0, 1, false, copy);
+        }
+        CHECKS.turns("10: fails with all four", x, 0, 1, 2, 1, 1, 1, 1, 6);
+        due("10: begun again", 1, x.again(0));
+        CHECKS.states("10: it has got nothing", x, 0, 0, 0, 0, 0);
+        CHECKS.turns("10: takes all again", x, 0, 1, 2, 1, 1, 1, 1, 2, 0);
+        due("10: as if it had not failed", 10, x.value(5));
+    }
+
     /** Promise 10, "and does not FAIL any more": at the step that it was told to, and at no other one. */
     private static void againDoesNotFail() {
         LendThreads x = new LendThreads();
@@ -304,6 +327,7 @@ public final class EndingEdgesTest {
         againOfNone();
         againOfOneThatIsNotToBegin();
         againOfEachEnd();
+        againTakesAllAgain();
         againDoesNotFail();
         againAndAgain();
         closeOfNoneOneAndTwelve();

@@ -40,11 +40,15 @@ final class Scenes {
         return x;
     }
 
-    /** One work for each thing that a work can be, but for CLOSED; two messages are told to be lost. */
+    /**
+     * One work for each thing that a work can be, but for CLOSED; two messages are told to be lost, and two of the
+     * works that are under way are told to fail.
+     */
     static LendThreads middle() {
         LendThreads x = new LendThreads();
         for (int i = 0; i < WORKS_IN_THE_MIDDLE; i++) {
-            x.work(i == DONE ? 1 : 2, i == FAILED ? 1 : -1);
+            boolean fails = i == FAILED || i == HAD_NO_TURN || i == TOOK;
+            x.work(i == DONE ? 1 : 2, fails ? 1 : -1);
         }
         doneSendsTwoAndTheFirstIsLost(x);
         x.wants(FAILED, 0, false, 1);

@@ -18,12 +18,16 @@ final class Twins {
     }
 
     void refused(String what, int answer, ToIntFunction<LendThreads> call) {
-        LendThreads one = past.get();
-        checks.due(what, answer, call.applyAsInt(one));
-        same(what + " changed what is seen at once", picture(past.get()), picture(one));
-        LendThreads other = past.get();
-        call.applyAsInt(other);
-        same(what + " changed what is seen later", goOn(past.get()), goOn(other));
+        checks.due(what, answer, call.applyAsInt(past.get()));
+        same(what + " changed what is seen at once", picture(past.get()), picture(behind(call)));
+        same(what + " changed who waits", interruptAll(past.get()), interruptAll(behind(call)));
+        same(what + " changed what is seen later", goOn(past.get()), goOn(behind(call)));
+    }
+
+    private LendThreads behind(ToIntFunction<LendThreads> call) {
+        LendThreads x = past.get();
+        call.applyAsInt(x);
+        return x;
     }
 
     /** The same of value, which is refused by an exception. */
@@ -67,11 +71,28 @@ final class Twins {
 
     private static void addUntilNone(List<Integer> seen, IntUnaryOperator rows) {
         int row = rows.applyAsInt(0);
-        for (int i = 1; row != LendThreads.NONE; i++) {
+        for (int i = 1; row != LendThreads.NONE && i <= 300; i++) {
             seen.add(row);
             row = rows.applyAsInt(i);
         }
         seen.add(row);
+    }
+
+    /** Without a turn before it, since a turn would cover up what the latest one did. */
+    private static List<Integer> interruptAll(LendThreads x) {
+        List<Integer> seen = new ArrayList<>();
+        for (int i = 0; i < 12; i++) {
+            seen.add(x.interrupt(i));
+        }
+        beginAllAgain(seen, x);
+        seen.add(x.close());
+        return seen;
+    }
+
+    private static void beginAllAgain(List<Integer> seen, LendThreads x) {
+        for (int i = 0; i < 12; i++) {
+            seen.add(x.again(i));
+        }
     }
 
     /** Calls that bring to light what can't be looked at: what was told, what is to be lost, how often begun again. */
@@ -85,15 +106,10 @@ final class Twins {
         }
         seen.add(x.run());
         seen.add(x.ring());
-        for (int i = 0; i < 12; i++) {
-            seen.add(x.again(i));
-        }
-        seen.add(x.run());
-        for (int i = 0; i < 12; i++) {
-            seen.add(x.interrupt(i));
-        }
         seen.addAll(picture(x));
-        seen.add(x.close());
+        beginAllAgain(seen, x);
+        seen.add(x.run());
+        seen.addAll(interruptAll(x));
         return seen;
     }
 }
