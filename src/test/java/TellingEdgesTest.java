@@ -120,6 +120,8 @@ public final class TellingEdgesTest {
         due("3: the last step", 1, x.wants(1, 9, false, 0));
         due("3: behind the last step", LendThreads.NONE, x.wants(1, 10, false, 0));
         due("3: a step that only another work has", LendThreads.NONE, x.wants(0, 1, false, 0));
+        due("3: another one's last step", LendThreads.NONE, x.wants(0, 9, false, 0));
+        due("3: far behind the last step", LendThreads.NONE, x.wants(1, Integer.MAX_VALUE, false, 0));
         LendThreads y = Scenes.full();
         due("3: the twelfth work", 1, y.wants(11, 0, false, 0));
         due("3: there is no thirteenth", LendThreads.NONE, y.wants(12, 0, false, 0));
@@ -266,6 +268,8 @@ public final class TellingEdgesTest {
         due("4: the last step", 1, x.sends(1, 9, 0));
         due("4: behind the last step", LendThreads.NONE, x.sends(1, 10, 0));
         due("4: a step that only another work has", LendThreads.NONE, x.sends(0, 1, 1));
+        due("4: another one's last step", LendThreads.NONE, x.sends(0, 9, 1));
+        due("4: far behind the last step", LendThreads.NONE, x.sends(1, Integer.MAX_VALUE, 0));
         LendThreads y = Scenes.full();
         due("4: the twelfth work", 1, y.sends(11, 0, 0));
         due("4: there is no thirteenth", LendThreads.NONE, y.sends(12, 0, 0));
