@@ -30,6 +30,10 @@ public final class EndingTest {
         }
     }
 
+    /**
+     * Promise 8: "of its works the one with the greatest number is ABORTED: it is UNDONE, all is free as in a
+     * failure: its number; NONE if there is no RING."
+     */
     private static void ring() {
         LendThreads x = withNext(1, 2, 0);
         due("8: nobody waits yet", LendThreads.NONE, x.ring());
@@ -49,6 +53,7 @@ public final class EndingTest {
         due("8: the others go on", 2, x.run());
     }
 
+    /** Promise 8: "Of the RINGS the one that has the work with the least number" */
     private static void ringOfTheLeast() {
         LendThreads x = withNext(5, 4, 3, 2, 1, 0);
         allWait(x, 6);
@@ -66,6 +71,7 @@ public final class EndingTest {
         due("8: 0 waits for 2, 2 for 1, 1 for 0: the greatest is in the middle", 2, z.ring());
     }
 
+    /** Promise 8: "NONE if there is no RING" */
     private static void ringIsNotAChain() {
         LendThreads x = withNext(1, 2, -1);
         x.turn(0);
@@ -84,6 +90,7 @@ public final class EndingTest {
         due("8: it is broken", LendThreads.NONE, z.ring());
     }
 
+    /** "(for it does not matter who else stands in LINE)" */
     private static void ringBehindOthersInLine() {
         LendThreads x = withNext(1, 0, 1, 0);
         x.turn(2);
@@ -94,6 +101,10 @@ public final class EndingTest {
         due("8: free, but nobody's ring", LendThreads.NONE, x.ring());
     }
 
+    /**
+     * Promise 9: "A work that waits (its latest turn since it began, or began again, did 3 or 4, and it is under
+     * way) is INTERRUPTED, UNDONE likewise: 1. NONE; STATE."
+     */
     private static void interrupt() {
         LendThreads x = withNext(1, -1);
         for (int none : NO_WORKS) {
@@ -115,6 +126,7 @@ public final class EndingTest {
         due("9: done", LendThreads.STATE, x.interrupt(1));
     }
 
+    /** Promise 9: "its latest turn", no earlier one */
     private static void interruptOfOneThatWaitsNoMore() {
         LendThreads x = new LendThreads();
         x.work(1, -1);
@@ -136,6 +148,7 @@ public final class EndingTest {
         due("9: it waits for a message", 1, x.interrupt(1));
     }
 
+    /** Promise 9: "its latest turn", be the copy free by now */
     private static void interruptThoughTheCopyIsFreeNow() {
         LendThreads x = withNext(1, -1);
         x.turn(0);
@@ -144,6 +157,10 @@ public final class EndingTest {
         due("9: its latest turn waited all the same", 1, x.interrupt(0));
     }
 
+    /**
+     * Promise 10: "A work that is FAILED, ABORTED or INTERRUPTED is under way again, from step 0 on, and does not
+     * FAIL any more: how often it was begun again. NONE, STATE."
+     */
     private static void again() {
         LendThreads x = new LendThreads();
         x.work(2, 1);
@@ -165,6 +182,7 @@ public final class EndingTest {
         due("10: its value", 10, x.value(0));
     }
 
+    /** Promise 10: "how often it was begun again" */
     private static void againAndAgain() {
         LendThreads x = new LendThreads();
         x.work(1, -1);
@@ -184,6 +202,7 @@ public final class EndingTest {
         due("10: closed too", LendThreads.STATE, y.again(0));
     }
 
+    /** Promise 10: "from step 0 on"; "messages stay as they are" */
     private static void againTakesNoMessageBack() {
         LendThreads x = new LendThreads();
         x.work(1, -1);
@@ -198,6 +217,7 @@ public final class EndingTest {
         due("10: what it asked for stays", 1, x.state(1, 4));
     }
 
+    /** Promise 11: "All works that are under way are CLOSED, the last first, each UNDONE: how many." */
     private static void close() {
         LendThreads x = withNext(1, -1, -1);
         x.turn(0);
@@ -219,6 +239,7 @@ public final class EndingTest {
         due("11: and is under way", 2, x.turn(3));
     }
 
+    /** Promise 11: "All works that are under way", no other ones */
     private static void closeLeavesOtherEnds() {
         LendThreads x = new LendThreads();
         x.work(1, 0);
@@ -234,6 +255,64 @@ public final class EndingTest {
         due("11: it is under way", 1, x.close());
     }
 
+    /**
+     * Promise 8: "it is UNDONE, all is free as in a failure"; promise 9: "UNDONE likewise"; promise 11: "each UNDONE":
+     * whatever ends work 1, the same is left, and so it is of one that was told to fail.
+     */
+    private static void undoneLikewise() {
+        for (int state = 2; state <= 5; state++) {
+            LendThreads x = endedBy(state);
+            String what = "6, 8, 9, 11: state " + state;
+            due(what, state, x.state(1, 0));
+            due(what + ": what it was before two acts", 2, x.value(5));
+            due(what + ": what it was before one act", 0, x.value(6));
+            due(what + ": free", LendThreads.NONE, x.has(5));
+            due(what + ": free", LendThreads.NONE, x.has(6));
+            due(what + ": it has none", 0, x.state(1, 3));
+            CHECKS.line(what + ": it stands in no line", x, 7);
+            CHECKS.log(what + ": the log keeps its lines", x, 200, 0, 100, 101);
+            due(what + ": the message that it sent stays", 1, x.mail(1, 2));
+            due(what + ": the message that it took stays taken", 0, x.mail(2, 1));
+            due(what + ": it is over", 0, x.turn(1));
+            due(what + ": the others are as they were", state == 5 ? 5 : 0, x.state(0, 0));
+        }
+    }
+
+    /** Work 0 has copy 7 and waits for copy 5, work 1 has copies 5 and 6, and waits for copy 7 or fails. */
+    private static LendThreads endedBy(int state) {
+        LendThreads x = new LendThreads();
+        x.work(2, -1);
+        x.work(3, state == 2 ? 2 : -1);
+        x.work(1, -1);
+        x.wants(0, 0, false, 7);
+        x.wants(0, 1, false, 5);
+        x.wants(1, 0, false, 5);
+        x.wants(1, 0, true, 2);
+        x.sends(1, 0, 2);
+        x.wants(1, 1, false, 6);
+        x.sends(1, 1, 2);
+        if (state != 2) {
+            x.wants(1, 2, false, 7);
+        }
+        x.wants(2, 0, false, 5);
+        x.sends(2, 0, 1);
+        CHECKS.turns("work 2 leaves a value and a message", x, 2, 1, 2);
+        CHECKS.turns("work 0 takes copy 7 and acts", x, 0, 1, 2);
+        CHECKS.turns("work 1 acts and sends", x, 1, 1, 1, 2);
+        x.loses(1);
+        CHECKS.turns("work 1 acts, what it sends is lost", x, 1, 1, 2);
+        CHECKS.turns("work 0 waits for copy 5", x, 0, 3);
+        CHECKS.turns("work 1 fails or waits", x, 1, state == 2 ? 6 : 3);
+        if (state == 3) {
+            due("8: work 1 is aborted", 1, x.ring());
+        } else if (state == 4) {
+            due("9: work 1 is interrupted", 1, x.interrupt(1));
+        } else if (state == 5) {
+            due("11: works 0 and 1 are closed", 2, x.close());
+        }
+        return x;
+    }
+
     public static void main(String[] args) {
         ring();
         ringOfTheLeast();
@@ -247,6 +326,7 @@ public final class EndingTest {
         againTakesNoMessageBack();
         close();
         closeLeavesOtherEnds();
+        undoneLikewise();
         CHECKS.end();
     }
 }

@@ -7,12 +7,10 @@ public final class LookingTest {
         CHECKS.due(call, want, got);
     }
 
-    private static void states(String when, LendThreads x, int work, int... want) {
-        for (int what = 0; what < want.length; what++) {
-            due("12: " + when + ": state(" + work + ", " + what + ")", want[what], x.state(work, what));
-        }
-    }
-
+    /**
+     * Promise 12: "Of a work, what 0: its STATE, 1: the step that is next, 2: how much of what that step wants it
+     * has got, 3: how many copies it HAS, 4: how many messages it asked for; NONE."
+     */
     private static void state() {
         LendThreads x = new LendThreads();
         x.work(2, -1);
@@ -23,32 +21,33 @@ public final class LookingTest {
         x.wants(1, 0, true, 0);
         x.wants(1, 1, false, 3);
         x.loses(1);
-        states("new", x, 1, 0, 0, 0, 0, 0);
+        CHECKS.states("12: new", x, 1, 0, 0, 0, 0, 0);
         x.turn(1);
-        states("has taken", x, 1, 0, 0, 1, 1, 0);
+        CHECKS.states("12: has taken", x, 1, 0, 0, 1, 1, 0);
         x.turn(1);
-        states("has it already", x, 1, 0, 0, 2, 1, 0);
+        CHECKS.states("12: has it already", x, 1, 0, 0, 2, 1, 0);
         x.turn(1);
-        states("waits", x, 1, 0, 0, 2, 1, 0);
+        CHECKS.states("12: waits", x, 1, 0, 0, 2, 1, 0);
         x.turn(0);
         x.turn(0);
-        states("done", x, 0, 1, 2, 0, 0, 0);
+        CHECKS.states("12: done", x, 0, 1, 2, 0, 0, 0);
         x.turn(1);
-        states("has asked", x, 1, 0, 0, 2, 1, 1);
+        CHECKS.states("12: has asked", x, 1, 0, 0, 2, 1, 1);
         x.turn(1);
         x.turn(1);
-        states("has acted", x, 1, 0, 1, 0, 1, 1);
+        CHECKS.states("12: has acted", x, 1, 0, 1, 0, 1, 1);
         x.turn(1);
-        states("has two", x, 1, 0, 1, 1, 2, 1);
+        CHECKS.states("12: has two", x, 1, 0, 1, 1, 2, 1);
         x.turn(1);
-        states("failed", x, 1, 2, 1, 1, 0, 1);
+        CHECKS.states("12: failed", x, 1, 2, 1, 1, 0, 1);
         x.again(1);
-        states("again", x, 1, 0, 0, 0, 0, 1);
+        CHECKS.states("12: again", x, 1, 0, 0, 0, 0, 1);
         x.close();
-        states("closed", x, 1, 5, 0, 0, 0, 1);
+        CHECKS.states("12: closed", x, 1, 5, 0, 0, 0, 1);
         noStates(x);
     }
 
+    /** Promise 12: "NONE" */
     private static void noStates(LendThreads x) {
         due("12: no such what", LendThreads.NONE, x.state(0, 5));
         due("12: no such work", LendThreads.NONE, x.state(2, 0));
@@ -58,6 +57,7 @@ public final class LookingTest {
         }
     }
 
+    /** Promise 13: "Who HAS a copy; NONE if it is free, or there is none such." */
     private static void has() {
         LendThreads x = new LendThreads();
         for (int i = 0; i < 10; i++) {
@@ -77,6 +77,7 @@ public final class LookingTest {
         due("13: free again", LendThreads.NONE, x.has(0));
     }
 
+    /** Promise 14: "The i-th work, from 0 on, in a copy's LINE; NONE." */
     private static void line() {
         LendThreads x = new LendThreads();
         for (int i = 0; i < 12; i++) {
@@ -107,6 +108,7 @@ public final class LookingTest {
         due("14: all have left", LendThreads.NONE, x.line(9, 0));
     }
 
+    /** Promise 15: "A copy's VALUE. IndexOutOfBoundsException if there is none such." */
     private static void value() {
         LendThreads x = new LendThreads();
         for (int copy = 0; copy < 10; copy++) {
@@ -127,6 +129,7 @@ public final class LookingTest {
         due("15: copy 1", 0, x.value(1));
     }
 
+    /** Promise 16: "Line i of THE LOG, from 0 on (the first 300 are told), 100 times the work and the step; NONE." */
     private static void log() {
         LendThreads x = new LendThreads();
         for (int i = 0; i < 12; i++) {
@@ -142,7 +145,7 @@ public final class LookingTest {
         }
     }
 
-    /** Work 0 acts in nine steps and waits in the tenth, 34 times over. */
+    /** Promise 16: "(the first 300 are told)": work 0 acts in nine steps and waits in the tenth, 34 times over. */
     private static void logOfMoreThanIsTold() {
         LendThreads x = new LendThreads();
         x.work(10, -1);
@@ -160,6 +163,7 @@ public final class LookingTest {
         due("16: nor is 301", LendThreads.NONE, x.log(301));
     }
 
+    /** Promise 17: "How many messages from a work to another one are there, and not taken; RANGE." */
     private static void mail() {
         LendThreads x = new LendThreads();
         x.work(2, -1);

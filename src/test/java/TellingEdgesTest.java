@@ -99,6 +99,7 @@ public final class TellingEdgesTest {
         due("2: RANGE is told before FULL", LendThreads.RANGE, x.work(11, -1));
     }
 
+    /** Promise 2, "RANGE", "FULL": nothing is changed */
     private static void refusedWorksChangeNothing() {
         EMPTY.refused("2: work(0, -1) of a new object", LendThreads.RANGE, x -> x.work(0, -1));
         MIDDLE.refused("2: work(11, 3)", LendThreads.RANGE, x -> x.work(11, 3));
@@ -138,7 +139,7 @@ public final class TellingEdgesTest {
         CHECKS.turns("3: takes both", x, 0, 1, 1, 2);
     }
 
-    /** Promise 3, "RANGE (.. the other work, itself)" */
+    /** Promise 3, "the other work, itself)" */
     private static void wantsAMessageOfNone() {
         LendThreads x = Scenes.withWorks(3, 1);
         due("3: below the first work", LendThreads.RANGE, x.wants(1, 0, true, -1));
@@ -238,6 +239,7 @@ public final class TellingEdgesTest {
         due("3: STATE and FULL", LendThreads.STATE, x.wants(0, 0, false, 1));
     }
 
+    /** Promise 3, "NONE", "RANGE", "STATE", "FULL": nothing is changed */
     private static void refusedWantsChangeNothing() {
         EMPTY.refused("3: wants of a new object", LendThreads.NONE, x -> x.wants(0, 0, false, 0));
         FULL.refused("3: no such work", LendThreads.NONE, x -> x.wants(12, 0, false, 5));
@@ -316,6 +318,7 @@ public final class TellingEdgesTest {
         due("4: STATE and FULL", LendThreads.STATE, x.sends(0, 0, 1));
     }
 
+    /** Promise 4, "NONE", "RANGE", "STATE", "FULL": nothing is changed */
     private static void refusedSendsChangeNothing() {
         EMPTY.refused("4: sends of a new object", LendThreads.NONE, x -> x.sends(0, 0, 1));
         FULL.refused("4: no such work", LendThreads.NONE, x -> x.sends(12, 0, 5));
@@ -376,6 +379,7 @@ public final class TellingEdgesTest {
         return x;
     }
 
+    /** Promise 5, "RANGE": nothing is changed */
     private static void refusedLosesChangesNothing() {
         EMPTY.refused("5: loses(101) of a new object", LendThreads.RANGE, x -> x.loses(101));
         FULL.refused("5: loses(-1)", LendThreads.RANGE, x -> x.loses(-1));

@@ -7,14 +7,7 @@ public final class TellingTest {
         CHECKS.due(call, want, got);
     }
 
-    private static LendThreads withWorks(int count, int steps) {
-        LendThreads x = new LendThreads();
-        for (int i = 0; i < count; i++) {
-            x.work(steps, -1);
-        }
-        return x;
-    }
-
+    /** Promise 1: "No works; all copies are free." */
     private static void aNewObject() {
         LendThreads x = new LendThreads();
         for (int i = -1; i <= 12; i++) {
@@ -31,10 +24,14 @@ public final class TellingTest {
         due("1: ring", LendThreads.NONE, x.ring());
         due("1: close", 0, x.close());
         due("1: mail", LendThreads.RANGE, x.mail(0, 1));
-        due("1: another object has its own works", 0, withWorks(0, 1).work(1, -1));
+        due("1: another object has its own works", 0, Scenes.withWorks(0, 1).work(1, -1));
         due("1: the first work", 0, x.work(1, -1));
     }
 
+    /**
+     * Promise 2: "A work more, of so many steps, that FAILS at a step (-1: at none): its number. RANGE (steps 1 ..
+     * 10, the step -1 or one of its own), FULL."
+     */
     private static void work() {
         LendThreads x = new LendThreads();
         due("2: no steps", LendThreads.RANGE, x.work(0, -1));
@@ -57,8 +54,13 @@ public final class TellingTest {
         due("2: no thirteenth was made", LendThreads.NONE, x.state(12, 0));
     }
 
+    /**
+     * Promise 3: "A step of a work wants a copy, or (message) a message from a work, behind what it wants: how many
+     * it has. NONE (the work, the step); RANGE (the copy, the other work, itself); STATE if the work has had a turn;
+     * FULL."
+     */
     private static void wants() {
-        LendThreads x = withWorks(3, 2);
+        LendThreads x = Scenes.withWorks(3, 2);
         due("3: no such work", LendThreads.NONE, x.wants(3, 0, false, 0));
         due("3: a work below 0", LendThreads.NONE, x.wants(-1, 0, false, 0));
         due("3: no such step", LendThreads.NONE, x.wants(0, 2, false, 0));
@@ -85,6 +87,7 @@ public final class TellingTest {
         due("3: another one had no turn", 2, x.wants(1, 0, true, 0));
     }
 
+    /** Promise 3: "how many it has", "FULL" */
     private static void wantsUpToFour(LendThreads x) {
         due("3: the first", 1, x.wants(0, 0, false, 9));
         due("3: the second", 2, x.wants(0, 0, true, 2));
@@ -95,8 +98,9 @@ public final class TellingTest {
         due("3: each step has its own", 1, x.wants(0, 1, false, 1));
     }
 
+    /** Promise 3: "behind what it wants" */
     private static void wantsInTheOrderTold() {
-        LendThreads x = withWorks(1, 1);
+        LendThreads x = Scenes.withWorks(1, 1);
         x.wants(0, 0, false, 5);
         x.wants(0, 0, false, 2);
         x.turn(0);
@@ -104,11 +108,12 @@ public final class TellingTest {
         due("3: not yet the second", LendThreads.NONE, x.has(2));
     }
 
+    /** Promises 3 and 4: "STATE if the work has had a turn", in a run or before it began again */
     private static void wantsAfterOthers() {
-        LendThreads x = withWorks(2, 1);
+        LendThreads x = Scenes.withWorks(2, 1);
         x.run();
         due("3: a turn in run is a turn", LendThreads.STATE, x.wants(0, 0, false, 0));
-        LendThreads y = withWorks(2, 1);
+        LendThreads y = Scenes.withWorks(2, 1);
         y.wants(0, 0, true, 1);
         y.turn(0);
         y.interrupt(0);
@@ -117,8 +122,9 @@ public final class TellingTest {
         due("4: likewise", LendThreads.STATE, y.sends(0, 0, 1));
     }
 
+    /** Promise 4: "A step sends a message to another work: how many it sends. NONE, RANGE, STATE, FULL likewise." */
     private static void sends() {
-        LendThreads x = withWorks(3, 2);
+        LendThreads x = Scenes.withWorks(3, 2);
         due("4: no such work", LendThreads.NONE, x.sends(3, 0, 0));
         due("4: a work below 0", LendThreads.NONE, x.sends(-1, 0, 0));
         due("4: no such step", LendThreads.NONE, x.sends(0, 2, 1));
@@ -146,8 +152,9 @@ public final class TellingTest {
         due("4: the next step's came", 1, x.mail(0, 2));
     }
 
+    /** Promise 5: "So many messages that are sent next, 0 .. 100, are LOST (in place of what was told): 1; RANGE." */
     private static void loses() {
-        LendThreads x = withWorks(3, 3);
+        LendThreads x = Scenes.withWorks(3, 3);
         due("5: below 0", LendThreads.RANGE, x.loses(-1));
         due("5: above 100", LendThreads.RANGE, x.loses(101));
         for (int wild : WILD) {
@@ -168,8 +175,9 @@ public final class TellingTest {
         due("5: nor is the third", 1, x.mail(0, 2));
     }
 
+    /** Promise 5: "So many messages that are sent next", whoever sends them */
     private static void losesCountsOverAllSenders() {
-        LendThreads x = withWorks(3, 1);
+        LendThreads x = Scenes.withWorks(3, 1);
         x.sends(0, 0, 2);
         x.sends(1, 0, 2);
         x.sends(2, 0, 1);
@@ -178,7 +186,7 @@ public final class TellingTest {
         due("5: the first sender's", 0, x.mail(0, 2));
         due("5: the second sender's", 0, x.mail(1, 2));
         due("5: the third sender's", 1, x.mail(2, 1));
-        LendThreads y = withWorks(2, 1);
+        LendThreads y = Scenes.withWorks(2, 1);
         y.sends(0, 0, 1);
         y.loses(5);
         y.loses(0);

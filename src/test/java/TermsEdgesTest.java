@@ -1,3 +1,5 @@
+import java.util.function.ToIntFunction;
+
 /** The edges that "What it is" and "Terms" name: how much there is of each thing, and what happens at either end. */
 public final class TermsEdgesTest {
     private static final Checks CHECKS = new Checks();
@@ -6,7 +8,7 @@ public final class TermsEdgesTest {
         CHECKS.due(call, want, got);
     }
 
-    /** "at most 512 calls after it has been made": 3 calls, 169 times 3 calls, 2 calls. */
+    /** "An object is used for at most 512 calls after it has been made": 3 calls, 169 times 3 calls, 2 calls. */
     private static void theLastOf512Calls() {
         LendThreads x = Scenes.withWorks(2, 1);
         x.wants(0, 0, true, 1);
@@ -19,6 +21,7 @@ public final class TermsEdgesTest {
         due("calls: the 512th", 1, x.interrupt(0));
     }
 
+    /** "at most 512 calls after it has been made": refused ones are calls too */
     private static void theLastOf512CallsBehindRefusedOnes() {
         LendThreads x = Scenes.empty();
         for (int i = 0; i < 255; i++) {
@@ -27,6 +30,38 @@ public final class TermsEdgesTest {
         }
         due("calls: the 511th", 0, x.work(1, -1));
         due("calls: the 512th", 2, x.turn(0));
+    }
+
+    /** "at most 512 calls after it has been made": each call of the face, from the 7th to the 512th. */
+    private static void eachCallToTheEnd() {
+        toTheEnd("work(11, -1)", LendThreads.RANGE, x -> x.work(11, -1));
+        toTheEnd("wants(1, 0, false, 10)", LendThreads.RANGE, x -> x.wants(1, 0, false, 10));
+        toTheEnd("sends(1, 0, 1)", LendThreads.RANGE, x -> x.sends(1, 0, 1));
+        toTheEnd("loses(100)", 1, x -> x.loses(100));
+        toTheEnd("turn(0)", 4, x -> x.turn(0));
+        toTheEnd("run()", 0, x -> x.run());
+        toTheEnd("ring()", LendThreads.NONE, x -> x.ring());
+        toTheEnd("interrupt(0)", LendThreads.STATE, x -> x.interrupt(0));
+        toTheEnd("again(0)", LendThreads.STATE, x -> x.again(0));
+        toTheEnd("close()", 0, x -> x.close());
+        toTheEnd("state(0, 2)", 1, x -> x.state(0, 2));
+        toTheEnd("has(5)", 0, x -> x.has(5));
+        toTheEnd("line(5, 0)", LendThreads.NONE, x -> x.line(5, 0));
+        toTheEnd("value(5)", 0, x -> x.value(5));
+        toTheEnd("log(0)", LendThreads.NONE, x -> x.log(0));
+        toTheEnd("mail(1, 0)", 0, x -> x.mail(1, 0));
+    }
+
+    /** Five calls, the one that is meant, for a run or a closing changes something once, and 506 times the same. */
+    private static void toTheEnd(String name, int answer, ToIntFunction<LendThreads> call) {
+        LendThreads x = Scenes.withWorks(2, 2);
+        x.wants(0, 0, false, 5);
+        x.wants(0, 0, true, 1);
+        x.turn(0);
+        call.applyAsInt(x);
+        for (int i = 7; i <= 512; i++) {
+            due("calls: " + name + " as call " + i, answer, call.applyAsInt(x));
+        }
     }
 
     /** "one for each time it was sent": 21 calls, then 18 messages in 3 calls, 163 times. */
@@ -338,6 +373,7 @@ public final class TermsEdgesTest {
     public static void main(String[] args) {
         theLastOf512Calls();
         theLastOf512CallsBehindRefusedOnes();
+        eachCallToTheEnd();
         messagesOf512Calls();
         twelveWorks();
         tenCopies();

@@ -6,22 +6,16 @@ public final class TurnTest {
         CHECKS.due(call, want, got);
     }
 
-    private static LendThreads withWorks(int count, int steps) {
-        LendThreads x = new LendThreads();
-        for (int i = 0; i < count; i++) {
-            x.work(steps, -1);
-        }
-        return x;
-    }
-
+    /** Promise 6: "A TURN of a work: what it did."; "0 nothing: it is over, or there is none such" */
     private static void turnOfNone() {
-        LendThreads x = withWorks(1, 1);
+        LendThreads x = Scenes.withWorks(1, 1);
         for (int none : new int[] {Integer.MIN_VALUE, -1, 1, 11, 12, Integer.MAX_VALUE}) {
             due("6: turn(" + none + ") of none such", 0, x.turn(none));
         }
         CHECKS.turns("6: acts, is done, does nothing", x, 0, 2, 0, 0);
     }
 
+    /** Promise 6: "1 takes the copy", "2 ACTS, when it has all that its step wants" */
     private static void takesAndActs() {
         LendThreads x = new LendThreads();
         x.work(1, -1);
@@ -44,8 +38,9 @@ public final class TurnTest {
         due("6: done", 1, x.state(1, 0));
     }
 
+    /** Promise 6: "3 waits (for a copy)" */
     private static void waitsInLine() {
-        LendThreads x = withWorks(4, 2);
+        LendThreads x = Scenes.withWorks(4, 2);
         for (int i = 0; i < 4; i++) {
             x.wants(i, 0, false, 6);
         }
@@ -66,8 +61,9 @@ public final class TurnTest {
         due("6: it has it", 3, x.has(6));
     }
 
+    /** Promise 6: "4 waits (for a message); 5 asks for a LOST one" */
     private static void messages() {
-        LendThreads x = withWorks(2, 2);
+        LendThreads x = Scenes.withWorks(2, 2);
         x.sends(0, 0, 1);
         x.sends(0, 1, 1);
         x.wants(1, 0, true, 0);
@@ -82,8 +78,9 @@ public final class TurnTest {
         due("6: one asked for", 1, x.state(1, 4));
     }
 
+    /** Promise 6: "1 takes the copy, or message, that it wants next", if one is there */
     private static void takesWhatIsThereBeforeItAsks() {
-        LendThreads x = withWorks(2, 1);
+        LendThreads x = Scenes.withWorks(2, 1);
         x.sends(0, 0, 1);
         x.sends(0, 0, 1);
         x.wants(1, 0, true, 0);
@@ -93,8 +90,9 @@ public final class TurnTest {
         CHECKS.turns("6: one is there, one is lost", x, 1, 1, 5, 1, 2, 0);
     }
 
+    /** Promise 6: "4 waits (for a message)", though another work sent it one */
     private static void messagesFromTheRightWork() {
-        LendThreads x = withWorks(3, 1);
+        LendThreads x = Scenes.withWorks(3, 1);
         x.sends(0, 0, 2);
         x.wants(2, 0, true, 1);
         x.turn(0);
@@ -104,6 +102,7 @@ public final class TurnTest {
         due("6: it is not taken", 1, x.mail(0, 2));
     }
 
+    /** Promise 6: "6 FAILS", behind two acts */
     private static void fails() {
         LendThreads y = failing();
         CHECKS.turns("6: acts twice, takes and fails", y, 0, 1, 2, 1, 2, 1, 6, 0);
@@ -135,6 +134,7 @@ public final class TurnTest {
         return y;
     }
 
+    /** Promise 6: "6 FAILS", before any act */
     private static void failsAtItsFirstStep() {
         LendThreads x = new LendThreads();
         x.work(1, 0);
@@ -142,8 +142,9 @@ public final class TurnTest {
         due("6: it acted in no step", LendThreads.NONE, x.log(0));
     }
 
+    /** "(ints run over)" */
     private static void valuesRunOver() {
-        LendThreads x = withWorks(12, 10);
+        LendThreads x = Scenes.withWorks(12, 10);
         int want = 0;
         for (int i = 0; i < 12; i++) {
             x.wants(i, 0, false, 0);
@@ -155,8 +156,12 @@ public final class TurnTest {
         due("6: ints run over", want, x.value(0));
     }
 
+    /**
+     * Promise 7: "Turns of all works, by numbers, again and again, till all of them did 0, 3 or 4 in one round: how
+     * many steps acted."
+     */
     private static void run() {
-        LendThreads x = withWorks(3, 2);
+        LendThreads x = Scenes.withWorks(3, 2);
         x.wants(0, 0, true, 2);
         x.sends(2, 1, 0);
         x.wants(1, 0, true, 0);
@@ -170,8 +175,11 @@ public final class TurnTest {
         due("7: nothing more", 0, x.run());
     }
 
+    /**
+     * Promise 7: "till all of them did 0, 3 or 4 in one round": works that wait for each other, and one that fails
+     */
     private static void runStopsAtRings() {
-        LendThreads x = withWorks(2, 2);
+        LendThreads x = Scenes.withWorks(2, 2);
         x.wants(0, 0, false, 0);
         x.wants(0, 1, false, 1);
         x.wants(1, 0, false, 1);
@@ -193,17 +201,27 @@ public final class TurnTest {
         return x.run();
     }
 
+    /** Promise 7: "Turns of all works, by numbers" */
     private static void runGoesByNumbers() {
-        LendThreads x = withWorks(3, 2);
+        LendThreads x = Scenes.withWorks(3, 2);
         x.run();
         int[] lines = {0, 100, 200, 1, 101, 201};
         for (int i = 0; i < lines.length; i++) {
             due("7: by numbers, a turn each: log(" + i + ")", lines[i], x.log(i));
         }
+        LendThreads y = Scenes.withWorks(2, 1);
+        y.wants(0, 0, false, 5);
+        y.wants(0, 0, false, 6);
+        y.wants(1, 0, false, 6);
+        y.wants(1, 0, false, 5);
+        due("7: a turn each: both take one copy, then both wait", 0, y.run());
+        due("7: 0 did not take two copies in a row", 0, y.has(5));
+        due("7: 1 had its turn in between", 1, y.has(6));
     }
 
+    /** Promise 7: "again and again", with rings that are broken */
     private static void longestRun() {
-        LendThreads x = withWorks(12, 10);
+        LendThreads x = Scenes.withWorks(12, 10);
         for (int i = 0; i < 12; i++) {
             for (int k = 0; k < 10; k++) {
                 x.wants(i, k, false, (i + k) % 2);
